@@ -93,6 +93,8 @@ final class Checks {
         try {
             return " " + question.getAsInt();
         } catch (IndexOutOfBoundsException none) {
+            // What the machine throws itself is of a class below this one.
+            same("a question throws", INDEX, none.getClass());
             return " -";
         }
     }

@@ -15,6 +15,7 @@ public final class QuestionsTest {
         recipeTies();
         recipeRoundsTheSum();
         paid();
+        fullShop();
         Checks.end("QuestionsTest");
     }
 
@@ -253,6 +254,51 @@ public final class QuestionsTest {
         for (int house = 0; house < 4; house++) {
             Checks.same("house " + house, 11 * (house + 1), book.paid(house));
         }
+    }
+
+    /** As many of everything as there can be: the last ones work as the others do. */
+    private static void fullShop() {
+        AtelierBook book = new AtelierBook();
+        for (int pigment = 0; pigment < 6; pigment++) {
+            book.pigment(40 * pigment, 0, 0);
+        }
+        for (int tube = 0; tube < 12; tube++) {
+            book.tube(tube % 6, 1000);
+        }
+        for (int pot = 0; pot < 10; pot++) {
+            book.pot();
+            for (int tube = 0; tube < 12; tube++) {
+                book.squeeze(pot, tube, 10 + tube);
+            }
+        }
+        for (int picture = 0; picture < 8; picture++) {
+            book.picture();
+            for (int layer = 0; layer < 12; layer++) {
+                book.paint(picture, picture, layer == 11 ? 2 : 12);
+            }
+        }
+        for (int tube = 0; tube < 12; tube++) {
+            int[] grams = new int[4];
+            for (int place = 0; place < 4; place++) {
+                grams[place] = book.where(tube, place);
+            }
+            Checks.same("in tube " + tube, 1000 - 10 * (10 + tube), grams[0]);
+            Checks.same("all of tube " + tube, 1000, grams[0] + grams[1] + grams[2] + grams[3]);
+        }
+        Checks.same("the last pot", 186, book.has(9, AtelierBook.NONE));
+        Checks.same("its last tube", 21, book.has(9, 11));
+        Checks.same("the last picture's value", 700, book.sell(7, 700));
+        Checks.same("the lowest first tube", 50, book.recipe(200, 0, 0));
+        book.squeeze(9, 5, 850);
+        Checks.same("the last tube", 110, book.recipe(200, 0, 0));
+        Checks.same("off the last picture", 134, book.clean(7, 12));
+        Checks.same("wasted of the last tube", 1000, book.where(11, 0) + book.where(11, 1)
+                + book.where(11, 2) + book.where(11, 3));
+        Checks.same("the others keep their layers", 12, book.of(6, 0));
+        book.lend(7, 3, 2);
+        Checks.same("a day of eight pictures", 1, book.pass(1));
+        Checks.same("of the last picture", 1, book.of(7, 5));
+        Checks.snapshot(book);
     }
 
     private static String allOf(AtelierBook book, int picture) {
