@@ -46,7 +46,7 @@ public final class LongRunsTest {
                         : ordinary(name, i, steps, crowd);
             }
             String due = plain.call(name, args[0], args[1], args[2]);
-            String got = answer(book, name, args[0], args[1], args[2]);
+            String got = Calls.answer(book, name, args[0], args[1], args[2]);
             Checks.same("run " + run + ", call " + call + ": " + name + " " + args[0] + " "
                     + args[1] + " " + args[2], due, got);
         }
@@ -80,42 +80,6 @@ public final class LongRunsTest {
                 return steps.below(name.equals("where") ? 4 : 3);
             default:
                 return steps.below(crowd);
-        }
-    }
-
-    private static String answer(AtelierBook book, String name, int a, int b, int c) {
-        try {
-            return Integer.toString(call(book, name, a, b, c));
-        } catch (RuntimeException thrown) {
-            // What the machine throws itself is a class below these, and so never the same.
-            return thrown.getClass().getSimpleName();
-        }
-    }
-
-    private static int call(AtelierBook book, String name, int a, int b, int c) {
-        switch (name) {
-            case "pigment": return book.pigment(a, b, c);
-            case "tube": return book.tube(a, b);
-            case "pot": return book.pot();
-            case "squeeze": return book.squeeze(a, b, c);
-            case "pour": return book.pour(a, b, c);
-            case "scrape": return book.scrape(a);
-            case "picture": return book.picture();
-            case "paint": return book.paint(a, b, c);
-            case "clean": return book.clean(a, b);
-            case "damp": return book.damp(a, b);
-            case "lend": return book.lend(a, b, c);
-            case "sell": return book.sell(a, b);
-            case "pass": return book.pass(a);
-            case "left": return book.left(a);
-            case "has": return book.has(a, b);
-            case "colour": return book.colour(a, b);
-            case "of": return book.of(a, b);
-            case "layer": return book.layer(a, b, c);
-            case "where": return book.where(a, b);
-            case "recipe": return book.recipe(a, b, c);
-            case "paid": return book.paid(a);
-            default: throw new AssertionError(name);
         }
     }
 }
