@@ -20,82 +20,10 @@ final class Checks {
         }
     }
 
-    /** A refused call throws exactly this exception, and every question answers as before. */
-    static void refused(String what, Class<? extends RuntimeException> due, AtelierBook book,
-            Runnable call) {
-        String before = snapshot(book);
-        Object got = "nothing thrown";
-        try {
-            call.run();
-        } catch (RuntimeException thrown) {
-            got = thrown.getClass();
-        }
-        same(what, due, got);
-        same(what + " changes nothing", before, snapshot(book));
-    }
-
-    /** The answers of all questions, in range and just beyond it. */
-    static String snapshot(AtelierBook book) {
-        StringBuilder all = new StringBuilder();
-        for (int tube = -1; tube <= 12; tube++) {
-            int number = tube;
-            all.append("\ntube ").append(tube).append(ask(() -> book.left(number)));
-            for (int what = 0; what < 4; what++) {
-                int place = what;
-                all.append(ask(() -> book.where(number, place)));
-            }
-        }
-        for (int pot = -1; pot <= 10; pot++) {
-            int number = pot;
-            all.append("\npot ").append(pot);
-            for (int tube = -1; tube <= 12; tube++) {
-                int of = tube;
-                all.append(ask(() -> book.has(number, of)));
-            }
-            for (int what = 0; what < 3; what++) {
-                int channel = what;
-                all.append(ask(() -> book.colour(number, channel)));
-            }
-        }
-        for (int picture = -1; picture <= 8; picture++) {
-            all.append("\npicture ").append(picture);
-            appendPicture(all, book, picture);
-        }
-        for (int house = -1; house <= 4; house++) {
-            int number = house;
-            all.append("\nhouse ").append(house).append(ask(() -> book.paid(number)));
-        }
-        return all.append("\nrecipe").append(ask(() -> book.recipe(100, 150, 200))).toString();
-    }
-
     static void end(String test) {
         System.out.println(test + ": " + done + " checks, " + wrong + " wrong");
         if (done == 0 || wrong != 0) {
             System.exit(1);
-        }
-    }
-
-    private static void appendPicture(StringBuilder all, AtelierBook book, int picture) {
-        for (int what = 0; what < 9; what++) {
-            int about = what;
-            all.append(ask(() -> book.of(picture, about)));
-        }
-        for (int layer = 0; layer <= 12; layer++) {
-            for (int tube = 0; tube <= 12; tube++) {
-                int number = layer;
-                int of = tube;
-                all.append(ask(() -> book.layer(picture, number, of)));
-            }
-        }
-    }
-
-    private static String ask(java.util.function.IntSupplier question) {
-        try {
-            return " " + question.getAsInt();
-        } catch (IndexOutOfBoundsException none) {
-            // What the machine throws itself is of a class below this one.
-            same("a question throws", INDEX, none.getClass());
-            return " -";
         }
     }
 }

@@ -1,16 +1,28 @@
 /** Promises 11 to 14: damp, lend, sell, pass; and what a picture is worth. */
 public final class LoansAndSalesTest {
-    private static final int FEWEST = Integer.MIN_VALUE;
-    private static final int MOST = Integer.MAX_VALUE;
+    private static final Class<? extends RuntimeException> INDEX = Checks.INDEX;
+    private static final Class<? extends RuntimeException> ARGUMENT = Checks.ARGUMENT;
+    private static final Class<? extends RuntimeException> STATE = Checks.STATE;
+
+    private static final int NONE = AtelierBook.NONE;
+    /** Two pots, the first one of pigment 0 and the second one of pigment 1. */
+    private static final String POTS = "pigment 10 20 30; pigment 10 20 30; tube 0 1000;"
+            + "tube 1 1000; pot; pot; squeeze 0 0 500; squeeze 1 1 500;";
+    /** A picture with a layer of pigment 0, then two and three of them. */
+    private static final String ONE = POTS + "picture; paint 0 0 10;";
+    private static final String TWO = ONE + "picture; paint 1 0 10;";
+    private static final String THREE = TWO + "picture; paint 2 0 10;";
 
     public static void main(String[] args) {
         damp();
         dampAndCracks();
         dampChangesDuringLoan();
         lend();
+        lendRefused();
         lendCosts();
         cracksKeepHome();
         sell();
+        sellRefused();
         valueOfAlike();
         valueOfBarePicture();
         valueOfCracked();
@@ -21,21 +33,17 @@ public final class LoansAndSalesTest {
     }
 
     private static void damp() {
-        AtelierBook book = new AtelierBook();
-        for (int bad : new int[] {FEWEST, -1, 4, MOST}) {
-            Checks.refused("house " + bad, Checks.INDEX, book, () -> book.damp(bad, 50));
-            Checks.refused("house first " + bad, Checks.INDEX, book, () -> book.damp(bad, 101));
-        }
-        for (int bad : new int[] {FEWEST, -1, 101, MOST}) {
-            Checks.refused("damp " + bad, Checks.ARGUMENT, book, () -> book.damp(0, bad));
+        Run run = Run.of("Sets the damp of a house.", "")
+                .beyond(INDEX, "damp # 50", -1, 4)
+                .beyond(INDEX, "damp # 101", -1, 4)
+                .beyond(ARGUMENT, "damp 0 #", -1, 101);
+        for (int house = 0; house < 4; house++) {
+            run.due("damp " + house + " 0", 50)
+                    .due("damp " + house + " 100", 0)
+                    .due("damp " + house + " " + house, 100);
         }
         for (int house = 0; house < 4; house++) {
-            Checks.same("at first", 50, book.damp(house, 0));
-            Checks.same("driest", 0, book.damp(house, 100));
-            Checks.same("dampest", 100, book.damp(house, house));
-        }
-        for (int house = 0; house < 4; house++) {
-            Checks.same("each its own", house, book.damp(house, 50));
+            run.due("damp " + house + " 50", house);
         }
     }
 
@@ -43,217 +51,150 @@ public final class LoansAndSalesTest {
         int[] damps = {0, 39, 40, 50, 60, 61, 100};
         int[] cracks = {1, 1, 0, 0, 0, 1, 1};
         for (int i = 0; i < damps.length; i++) {
-            AtelierBook book = withPictures(1);
-            book.damp(2, damps[i]);
-            book.lend(0, 2, 1);
-            book.pass(1);
-            Checks.same("cracks by the damp " + damps[i], cracks[i], book.of(0, 1));
-            book.pass(1);
-            Checks.same("none at home", cracks[i], book.of(0, 1));
+            Run.of("the damp of the house is more than 10 away from 50",
+                    ONE + "damp 2 " + damps[i] + "; lend 0 2 1; pass 1")
+                    .due("of 0 1", cracks[i])
+                    .then("pass 1")
+                    .due("of 0 1", cracks[i]);
         }
     }
 
     private static void dampChangesDuringLoan() {
-        AtelierBook book = withPictures(2);
-        book.lend(0, 3, 10);
-        book.lend(1, 2, 10);
-        book.pass(2);
-        book.damp(3, 90);
-        book.pass(3);
-        book.damp(3, 50);
-        book.pass(5);
-        Checks.same("cracks of the damp days", 3, book.of(0, 1));
-        Checks.same("none of the other house", 0, book.of(1, 1));
+        Run.of("With each day that passes a picture has a crack more", TWO + "lend 0 3 10;"
+                + "lend 1 2 10; pass 2; damp 3 90; pass 3; damp 3 50; pass 5")
+                .due("of 0 1", 3)
+                .due("of 1 1", 0);
     }
 
     private static void lend() {
-        AtelierBook book = withPictures(1);
-        for (int bad : new int[] {FEWEST, -1, 1, 8, MOST}) {
-            Checks.refused("picture " + bad, Checks.INDEX, book, () -> book.lend(bad, 0, 1));
-            Checks.refused("picture first " + bad, Checks.INDEX, book, () -> book.lend(bad, 0, 0));
-        }
-        for (int bad : new int[] {FEWEST, -1, 4, MOST}) {
-            Checks.refused("house " + bad, Checks.INDEX, book, () -> book.lend(0, bad, 1));
-            Checks.refused("house first " + bad, Checks.INDEX, book, () -> book.lend(0, bad, 0));
-        }
-        for (int bad : new int[] {FEWEST, -1, 0, 101, MOST}) {
-            Checks.refused("days " + bad, Checks.ARGUMENT, book, () -> book.lend(0, 0, bad));
-        }
-        Checks.same("without a value", 1, book.lend(0, 3, 100));
-        Checks.same("the house", 3, book.of(0, 4));
-        Checks.same("the days", 100, book.of(0, 5));
-        Checks.refused("a lent one", Checks.STATE, book, () -> book.lend(0, 3, 1));
-        Checks.refused("days go first", Checks.ARGUMENT, book, () -> book.lend(0, 3, 101));
-        Checks.refused("house goes first", Checks.INDEX, book, () -> book.lend(0, 4, 1));
-        book.picture();
-        Checks.same("without a layer, too", 1, book.lend(1, 0, 1));
+        Run.of("Lends a picture.", ONE)
+                .due("lend 0 3 100", 1)
+                .dues("of 0", 4, 5, "3 100")
+                .refused(STATE, "lend 0 3 1")
+                .refused(ARGUMENT, "lend 0 3 101")
+                .refused(INDEX, "lend 0 4 1")
+                .then("picture")
+                .due("lend 1 0 1", 1)
+                .dues("of 1", 4, 5, "0 1");
+    }
+
+    private static void lendRefused() {
+        Run.of("Lends a picture.", ONE)
+                .beyond(INDEX, "lend # 0 1", -1, 1).refused(INDEX, "lend 8 0 1")
+                .beyond(INDEX, "lend # 0 0", -1, 1).refused(INDEX, "lend 8 0 0")
+                .beyond(INDEX, "lend 0 # 1", -1, 4)
+                .beyond(INDEX, "lend 0 # 0", -1, 4)
+                .beyond(ARGUMENT, "lend 0 0 #", 0, 101).refused(ARGUMENT, "lend 0 0 -1")
+                .dues("of 0", 4, 5, "-1 0");
     }
 
     private static void lendCosts() {
-        AtelierBook book = withPictures(2);
-        book.sell(0, 199);
-        Checks.same("a hundredth, and 1", 2, book.lend(0, 1, 10));
-        Checks.same("nothing paid yet", 0, book.paid(1));
-        book.pass(1);
-        Checks.same("a day", 2, book.paid(1));
-        book.sell(1, 100000);
-        Checks.same("a sale changes the value", 50099, book.of(0, 2));
-        book.pass(4);
-        Checks.same("but not the cost", 10, book.paid(1));
-        Checks.same("another loan there", 501, book.lend(1, 1, 2));
-        book.pass(5);
-        Checks.same("both loans", 20 + 2 * 501, book.paid(1));
-        Checks.same("the value as it is lent again", 501, book.lend(0, 0, 1));
-        book.pass(1);
-        Checks.same("the other house", 501, book.paid(0));
-        Checks.same("pays for itself", 20 + 2 * 501, book.paid(1));
+        Run.of("A loan costs the house, each day, a hundredth of the value that the picture had as"
+                + " it was lent, and 1.", TWO + "sell 0 199")
+                .due("lend 0 1 10", 2)
+                .due("paid 1", 0)
+                .then("pass 1").due("paid 1", 2)
+                .then("sell 1 100000").due("of 0 2", 50099)
+                .then("pass 4").due("paid 1", 10)
+                .due("lend 1 1 2", 501)
+                .then("pass 5").due("paid 1", 20 + 2 * 501)
+                .due("lend 0 0 1", 501)
+                .then("pass 1").due("paid 0", 501).due("paid 1", 20 + 2 * 501);
     }
 
     private static void cracksKeepHome() {
-        AtelierBook book = withPictures(1);
-        book.damp(0, 100);
-        book.lend(0, 0, 9);
-        book.pass(9);
-        Checks.same("nine cracks are lent", 1, book.lend(0, 0, 1));
-        book.pass(1);
-        Checks.same("ten", 10, book.of(0, 1));
-        Checks.refused("are not", Checks.STATE, book, () -> book.lend(0, 1, 1));
-        Checks.refused("house goes first", Checks.INDEX, book, () -> book.lend(0, 4, 1));
-        Checks.refused("days go first", Checks.ARGUMENT, book, () -> book.lend(0, 1, 0));
-        Checks.same("but may be painted", 2, book.paint(0, 0, 1));
-        Checks.same("and sold", 50, book.sell(0, 100));
+        Run.of("A picture with 10 cracks or more is not lent.",
+                ONE + "damp 0 100; lend 0 0 9; pass 9")
+                .due("lend 0 0 1", 1)
+                .then("pass 1").due("of 0 1", 10)
+                .refused(STATE, "lend 0 1 1")
+                .refused(INDEX, "lend 0 4 1")
+                .refused(ARGUMENT, "lend 0 1 0")
+                .due("paint 0 0 1", 2)
+                .due("sell 0 100", 50);
     }
 
     private static void sell() {
-        AtelierBook book = withPictures(1);
-        book.picture();
-        for (int bad : new int[] {FEWEST, -1, 2, 8, MOST}) {
-            Checks.refused("picture " + bad, Checks.INDEX, book, () -> book.sell(bad, 1));
-            Checks.refused("picture first " + bad, Checks.INDEX, book, () -> book.sell(bad, 0));
-        }
-        for (int bad : new int[] {FEWEST, -1, 0, 100001, MOST}) {
-            Checks.refused("price " + bad, Checks.ARGUMENT, book, () -> book.sell(0, bad));
-            Checks.refused("price first " + bad, Checks.ARGUMENT, book, () -> book.sell(1, bad));
-        }
-        Checks.refused("without a layer", Checks.STATE, book, () -> book.sell(1, 1));
-        Checks.same("least price", 1, book.sell(0, 1));
-        Checks.same("most price", 100000, book.sell(0, 100000));
-        Checks.same("the latest sale alone", 7, book.sell(0, 7));
-        Checks.same("it stays in the book", 1, book.of(0, 0));
-        book.lend(0, 0, 1);
-        Checks.refused("a lent one", Checks.STATE, book, () -> book.sell(0, 1));
-        Checks.refused("price goes first", Checks.ARGUMENT, book, () -> book.sell(0, 0));
-        book.pass(1);
-        Checks.same("as it is back", 8, book.sell(0, 8));
+        Run.of("Tells a sale.", ONE)
+                .due("sell 0 1", 1)
+                .due("sell 0 100000", 100000)
+                .due("sell 0 7", 7)
+                .due("of 0 0", 1)
+                .then("lend 0 0 1; pass 1")
+                .due("sell 0 8", 8);
+    }
+
+    private static void sellRefused() {
+        Run.of("Tells a sale.", ONE + "picture")
+                .beyond(INDEX, "sell # 1", -1, 2).refused(INDEX, "sell 8 1")
+                .beyond(INDEX, "sell # 0", -1, 2).refused(INDEX, "sell 8 0")
+                .beyond(ARGUMENT, "sell 0 #", 0, 100001).refused(ARGUMENT, "sell 0 -1")
+                .beyond(ARGUMENT, "sell 1 #", 0, 100001).refused(ARGUMENT, "sell 1 -1")
+                .refused(STATE, "sell 1 1")
+                .then("lend 0 0 1")
+                .refused(STATE, "sell 0 1")
+                .refused(ARGUMENT, "sell 0 0")
+                .due("of 0 2", 0);
     }
 
     private static void valueOfAlike() {
-        AtelierBook book = withPictures(3);
-        Checks.same("without any", 0, book.of(0, 2));
-        Checks.same("one sold", 1000, book.sell(0, 1000));
-        Checks.same("all alike", 1000, book.of(1, 2));
-        Checks.same("the sum, divided", 750, book.sell(1, 501));
-        Checks.same("not sold itself", 750, book.of(2, 2));
-        book.paint(2, 1, 1);
-        Checks.same("no more alike", 0, book.of(2, 2));
-        Checks.same("by its own sale", 90, book.sell(2, 90));
-        book.paint(0, 1, 1);
-        Checks.same("alike by the uppermost layer", 545, book.of(0, 2));
-        Checks.same("the other of these", 545, book.of(2, 2));
-        Checks.same("what is left of those", 501, book.of(1, 2));
-        book.lend(2, 0, 1);
-        Checks.same("lent ones, too", 545, book.of(0, 2));
-        book.clean(0, 1);
-        Checks.same("alike again", 750, book.of(0, 2));
-        Checks.same("and not with that", 90, book.of(2, 2));
+        Run.of("the sum of the prices of the latest sale of each picture alike", THREE)
+                .due("of 0 2", 0)
+                .due("sell 0 1000", 1000).due("of 1 2", 1000)
+                .due("sell 1 501", 750).due("of 2 2", 750)
+                .then("paint 2 1 1").due("of 2 2", 0)
+                .due("sell 2 90", 90)
+                .then("paint 0 1 1").dues("of 0", 2, 3, "545 1").due("of 2 2", 545)
+                .due("of 1 2", 501)
+                .then("lend 2 0 1").due("of 0 2", 545)
+                .then("clean 0 1").due("of 0 2", 750).due("of 2 2", 90);
     }
 
     private static void valueOfBarePicture() {
-        AtelierBook book = withPictures(2);
-        book.sell(0, 300);
-        book.sell(1, 100);
-        book.clean(0, 1);
-        Checks.same("bare", 0, book.of(0, 2));
-        Checks.same("without the bare one", 100, book.of(1, 2));
-        book.clean(1, 1);
-        Checks.same("two bare ones are not alike", 0, book.of(1, 2));
-        Checks.same("the cost of a bare one", 1, book.lend(0, 0, 1));
-        book.paint(1, 0, 1);
-        Checks.same("the sale is kept", 100, book.of(1, 2));
+        Run.of("one without a layer is alike none", TWO + "sell 0 300; sell 1 100; clean 0 1")
+                .due("of 0 2", 0).due("of 1 2", 100)
+                .then("clean 1 1").due("of 1 2", 0)
+                .due("lend 0 0 1", 1)
+                .then("paint 1 0 1").due("of 1 2", 100);
     }
 
     private static void valueOfCracked() {
-        AtelierBook book = withPictures(2);
-        book.sell(0, 99999);
-        book.damp(1, 0);
-        book.lend(0, 1, 100);
-        book.pass(9);
-        Checks.same("nine times 4999 less", 55008, book.of(0, 2));
-        Checks.same("the other has no crack", 99999, book.of(1, 2));
-        book.pass(11);
-        Checks.same("what is rounded down stays", 19, book.of(0, 2));
-        book.pass(1);
-        Checks.same("not below 0", 0, book.of(0, 2));
-        book.pass(79);
-        Checks.same("lent with 100 cracks", 100, book.of(0, 1));
-        Checks.same("a price below 20 loses nothing", 19, book.sell(0, 19));
+        Run.of("and for each crack less a twentieth of that, rounded down, but at least 0",
+                TWO + "sell 0 99999; damp 1 0; lend 0 1 100")
+                .then("pass 9").due("of 0 2", 99999 - 9 * 4999).due("of 1 2", 99999)
+                .then("pass 11").due("of 0 2", 19)
+                .then("pass 1").due("of 0 2", 0)
+                .then("pass 79").due("of 0 1", 100)
+                .due("sell 0 19", 19);
     }
 
     private static void pass() {
-        AtelierBook book = withPictures(1);
-        book.lend(0, 0, 5);
-        for (int bad : new int[] {FEWEST, -1, 0, 101, MOST}) {
-            Checks.refused("days " + bad, Checks.ARGUMENT, book, () -> book.pass(bad));
-        }
-        Checks.same("a day", 1, book.pass(1));
-        Checks.same("four yet", 4, book.of(0, 5));
-        Checks.same("three days", 4, book.pass(3));
-        Checks.same("one yet", 1, book.of(0, 5));
-        Checks.same("still there", 0, book.of(0, 4));
-        Checks.same("the last day", 5, book.pass(1));
-        Checks.same("none yet", 0, book.of(0, 5));
-        Checks.same("back", AtelierBook.NONE, book.of(0, 4));
-        Checks.same("most days", 105, book.pass(100));
+        Run.of("Lets days pass.", ONE + "lend 0 0 5")
+                .beyond(ARGUMENT, "pass #", 0, 101).refused(ARGUMENT, "pass -1")
+                .due("pass 1", 1).due("of 0 5", 4)
+                .due("pass 3", 4).dues("of 0", 4, 5, "0 1")
+                .due("pass 1", 5).dues("of 0", 4, 5, "-1 0")
+                .due("pass 100", 105);
     }
 
     private static void passBeyondLoan() {
-        AtelierBook book = withPictures(2);
-        book.damp(0, 80);
-        book.lend(0, 0, 5);
-        book.lend(1, 0, 7);
-        Checks.same("beyond both", 100, book.pass(100));
-        Checks.same("cracks while lent", 5, book.of(0, 1));
-        Checks.same("cracks of the longer loan", 7, book.of(1, 1));
-        Checks.same("paid while lent", 12, book.paid(0));
-        Checks.same("at home", AtelierBook.NONE, book.of(0, 4));
+        Run.of("it is back when they have gone by", TWO + "damp 0 80; lend 0 0 5; lend 1 0 7")
+                .due("pass 100", 100)
+                .due("of 0 1", 5).due("of 1 1", 7)
+                .due("paid 0", 12)
+                .due("of 0 4", NONE).due("of 1 4", NONE);
     }
 
     private static void lastDay() {
-        AtelierBook book = withPictures(1);
+        Run run = Run.of("if it would be above 5000", ONE);
         for (int day = 100; day < 5000; day += 100) {
-            Checks.same("day", day, book.pass(100));
+            run.due("pass 100", day);
         }
-        Checks.same("near the end", 4999, book.pass(99));
-        book.lend(0, 0, 9);
-        Checks.refused("above the last day", Checks.STATE, book, () -> book.pass(2));
-        Checks.refused("days go first", Checks.ARGUMENT, book, () -> book.pass(101));
-        Checks.same("the last day", 5000, book.pass(1));
-        Checks.refused("after the last day", Checks.STATE, book, () -> book.pass(1));
-    }
-
-    /** Pictures with a layer of pigment 0 each, and pots 0 and 1 of pigments 0 and 1. */
-    private static AtelierBook withPictures(int pictures) {
-        AtelierBook book = new AtelierBook();
-        for (int number = 0; number < 2; number++) {
-            book.pigment(10, 20, 30);
-            book.tube(number, 1000);
-            book.pot();
-            book.squeeze(number, number, 500);
-        }
-        for (int picture = 0; picture < pictures; picture++) {
-            book.picture();
-            book.paint(picture, 0, 10);
-        }
-        return book;
+        run.due("pass 99", 4999)
+                .then("lend 0 0 9")
+                .refused(STATE, "pass 2")
+                .refused(ARGUMENT, "pass 101")
+                .due("pass 1", 5000)
+                .refused(STATE, "pass 1");
     }
 }

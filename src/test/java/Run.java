@@ -121,9 +121,21 @@ final class Run {
         checkLength(calls.size() + 1 + probe.size());
         StringBuilder all = new StringBuilder();
         for (String call : probe) {
-            all.append(call).append(": ").append(Calls.answer(of, call)).append("; ");
+            String answer = Calls.answer(of, call);
+            if (!isDueKind(answer)) {
+                Checks.same(told(call), "a number, or what the document names", answer);
+            }
+            all.append(call).append(": ").append(answer).append("; ");
         }
         return all.toString();
+    }
+
+    /** What the machine throws itself has another name, and so is never of these. */
+    private static boolean isDueKind(String answer) {
+        return answer.equals(Checks.INDEX.getSimpleName())
+                || answer.equals(Checks.ARGUMENT.getSimpleName())
+                || answer.equals(Checks.STATE.getSimpleName())
+                || !answer.isEmpty() && !Character.isLetter(answer.charAt(0));
     }
 
     private void checkLength(int length) {
